@@ -492,7 +492,7 @@ public final class ContainerTerminal {
         }
 
         void add(int id, int weight, int key, int pile) {
-            if (count >= MOST_CONTAINERS) {
+            if (count < 0 || count >= MOST_CONTAINERS) {
                 return;
             }
             int level = height(pile);
@@ -519,27 +519,40 @@ public final class ContainerTerminal {
             }
             for (int other = 0; other < count; other++) {
                 if (isAbove(other, row)) {
-                    levels[other]--;
+                    lower(other);
                 }
             }
+            for (int next = row + 1; next < count; next++) {
+                copyRow(next, next - 1);
+            }
             count--;
-            for (int gap = row; gap < count; gap++) {
-                ids[gap] = ids[gap + 1];
-                weights[gap] = weights[gap + 1];
-                keys[gap] = keys[gap + 1];
-                piles[gap] = piles[gap + 1];
-                levels[gap] = levels[gap + 1];
+        }
+
+        private void lower(int row) {
+            if (hasRow(row)) {
+                levels[row]--;
             }
         }
 
-        boolean hasRow(int row) {
-            return row >= 0 && row < count;
+        private void copyRow(int from, int to) {
+            if (hasRow(from) && hasRow(to)) {
+                ids[to] = ids[from];
+                weights[to] = weights[from];
+                keys[to] = keys[from];
+                piles[to] = piles[from];
+                levels[to] = levels[from];
+            }
+        }
+
+        private boolean hasRow(int row) {
+            return row >= 0 && row < count && row < MOST_CONTAINERS;
         }
 
         int id(int row) {
             return hasRow(row) ? ids[row] : NONE;
         }
 
+        /** A row that is not there weighs nothing, and so does a level without a container. */
         int weight(int row) {
             return hasRow(row) ? weights[row] : 0;
         }
@@ -561,7 +574,7 @@ public final class ContainerTerminal {
         }
 
         int rowOf(int id) {
-            for (int row = 0; row < count; row++) {
+            for (int row = 0; row < count && row < MOST_CONTAINERS; row++) {
                 if (ids[row] == id) {
                     return row;
                 }
@@ -580,7 +593,7 @@ public final class ContainerTerminal {
         }
 
         int rowAt(int pile, int level) {
-            for (int row = 0; row < count; row++) {
+            for (int row = 0; row < count && row < MOST_CONTAINERS; row++) {
                 if (piles[row] == pile && levels[row] == level) {
                     return row;
                 }
@@ -594,7 +607,7 @@ public final class ContainerTerminal {
 
         int height(int pile) {
             int height = 0;
-            for (int row = 0; row < count; row++) {
+            for (int row = 0; row < count && row < MOST_CONTAINERS; row++) {
                 if (piles[row] == pile) {
                     height++;
                 }
@@ -602,8 +615,8 @@ public final class ContainerTerminal {
             return height;
         }
 
-        boolean isAt(int row, int berth) {
-            return piles[row] != YARD && piles[row] / STACKS == berth;
+        private boolean isAt(int row, int berth) {
+            return hasRow(row) && piles[row] != YARD && piles[row] / STACKS == berth;
         }
 
         int onShips() {
@@ -633,14 +646,14 @@ public final class ContainerTerminal {
             int sum = 0;
             for (int row = 0; row < count; row++) {
                 if (isAt(row, berth)) {
-                    sum += weights[row];
+                    sum += weight(row);
                 }
             }
             return sum;
         }
 
-        boolean isAbove(int upper, int lower) {
-            return pile(upper) == pile(lower) && level(upper) > level(lower);
+        private boolean isAbove(int upper, int lower) {
+            return hasRow(upper) && hasRow(lower) && piles[upper] == piles[lower] && levels[upper] > levels[lower];
         }
 
         int countAbove(int row) {
@@ -673,7 +686,7 @@ public final class ContainerTerminal {
 
         boolean digsAgree() {
             for (int row = 0; row < count; row++) {
-                if (piles[row] != YARD && countAbove(row) != digOnCopy(row)) {
+                if (pile(row) != YARD && countAbove(row) != digOnCopy(row)) {
                     return false;
                 }
             }
@@ -692,7 +705,7 @@ public final class ContainerTerminal {
 
         int rowByWeight(int rank) {
             for (int row = 0; row < count; row++) {
-                if (piles[row] != YARD && rankOf(row) == rank) {
+                if (pile(row) != YARD && rankOf(row) == rank) {
                     return row;
                 }
             }
@@ -703,7 +716,7 @@ public final class ContainerTerminal {
             int rank = 0;
             for (int other = 0; other < count; other++) {
                 boolean before = weight(other) > weight(row) || weight(other) == weight(row) && other < row;
-                if (before && piles[other] != YARD) {
+                if (before && pile(other) != YARD) {
                     rank++;
                 }
             }
@@ -724,7 +737,6 @@ public final class ContainerTerminal {
             int pairs = 0;
             for (int upper = 1; upper < LEVELS; upper++) {
                 for (int lower = 0; lower < upper; lower++) {
-                    // A level without a container weighs 0, so it is never the heavier one.
                     if (weight(rowAt(pile, upper)) > weight(rowAt(pile, lower))) {
                         pairs++;
                     }
@@ -1083,7 +1095,7 @@ public final class ContainerTerminal {
 
         /** Carries the commands out up to the first one that fails, and returns its index. */
         int firstFailureOn(State state) {
-            for (int command = 0; command < count; command++) {
+            for (int command = 0; command < count && command < COMMAND_ROWS; command++) {
                 int[] given = arguments[command];
                 if (faultOf(state, kinds[command], given) != NO_FAULT) {
                     return command;

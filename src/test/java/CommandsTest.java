@@ -51,6 +51,17 @@ public final class CommandsTest {
         ContainerTerminal x = new ContainerTerminal();
         Check.run(x, "moor 1 2 345;stow 12 3/45;stow 12 6/7;move 123");
         Check.due("view", "0 0 0 0 0 true | 0 0 | 0 0 d2 h345 / / / 0:3/45 / 1:6/7 | 0 0 yard", Check.view(x));
+        // Answers: 45 * 7 + 3 = 318 and 7 * 7 + 6 = 55.
+        Check.due("run", 4, Check.run(x, "clear 12=8;clear 13=5;stow 13 9/9;deliver 1"));
+        Check.due("view", "0 0 2 1 0 true | 0 0 | 0 0 d2 h345 / / / / 2:9/9 | 0 0 yard 0:3/45", Check.view(x));
+        Check.due("run", 4, Check.run(x, "hours 2;move 131;deliver 0;clear 11=2"));
+        Check.due("view", "2 0 3 2 0 true | 0 0 | 0 0 d2 h345 / / / / | 0 0 yard 2:9/9", Check.view(x));
+        failsAt(x, "hours 1;stow 04 1/1", 1);
+        failsAt(x, "hours 1;stow 14 1/1", 1);
+        failsAt(x, "stow 11 1/1;clear 11=8;clear 11=8", 2);
+        failsAt(x, "deliver 1", 0);
+        Check.due("run", 3, Check.run(x, "hours 2;deliver 2;leave 1"));
+        Check.due("view", "4 0 3 3 0 true | 0 0 | 0 0 | 0 0 yard", Check.view(x));
     }
 
     private static void numbers() {

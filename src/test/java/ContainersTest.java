@@ -107,6 +107,12 @@ public final class ContainersTest {
             Check.due("movesToReachByCopy", later[id], x.movesToReachByCopy(id));
         }
         Check.due("the stack itself stays", 3, x.stackHeight(0, 0));
+        ContainerTerminal y = Check.stacked(1);
+        y.stow(0, 1, 2, 2);
+        y.move(0, 0, 1);
+        Check.due("the first container above", 1, y.movesToReach(1));
+        Check.due("the first container above", 1, y.movesToReachByCopy(1));
+        Check.due("the first container above", 0, y.heaviestAbove(1));
     }
 
     private static void heaviestAbove() {

@@ -10,6 +10,7 @@ public final class KeysYardFeesTest {
         meanHeight();
         rightShare();
         consistent();
+        fullTerminal();
         Check.end();
     }
 
@@ -209,5 +210,42 @@ public final class KeysYardFeesTest {
         Check.due("isConsistent", true, x.isConsistent());
         x.undo();
         Check.due("isConsistent", true, x.isConsistent());
+    }
+
+    /** 60 containers on the ships and 15 in the yard: no terminal holds more. */
+    private static void fullTerminal() {
+        ContainerTerminal x = new ContainerTerminal();
+        for (int berth = 0; berth < 3; berth++) {
+            x.moor(berth, 9, 0);
+        }
+        for (int id = 0; id < 75; id++) {
+            int stack = id / 3 % 4;
+            x.stow(id % 3, stack, 1 + id % 30, id);
+            if (id < 15) {
+                Check.clearRight(x, id % 3, stack);
+            }
+        }
+        for (int place = 0; place < 12; place++) {
+            Check.due("stackHeight", 5, x.stackHeight(place / 4, place % 4));
+        }
+        Check.due("yardCount", 15, x.yardCount());
+        Check.due("the last container", "74 30 4", x.topOf(2, 0) + " " + x.weightOf(59) + " " + x.levelOf(74));
+        Check.due("differentKeys", 75, x.differentKeys());
+        Check.due("meanHeight", 5.0, x.meanHeight());
+        Check.due("feesAfter", 63, x.feesAfter(1));
+        Check.due("containerByWeight, first", 29, x.containerByWeight(0));
+        Check.due("containerByWeight, last", 60, x.containerByWeight(59));
+        Check.notFound("containerByWeight", () -> x.containerByWeight(60));
+        Check.due("isConsistent", true, x.isConsistent());
+        Check.badState("stow", () -> x.stow(0, 0, 1, 1));
+        Check.badState("clear", () -> Check.clearRight(x, 0, 0));
+        Check.badState("move", () -> x.move(0, 0, 1));
+        x.deliver(0);
+        Check.due("clear", true, Check.clearRight(x, 2, 0));
+        Check.due("yardAt", 74, x.yardAt(14));
+        Check.due("isConsistent", true, x.isConsistent());
+        x.undo();
+        x.undo();
+        Check.due("yardAt", 0, x.yardAt(0));
     }
 }
