@@ -340,7 +340,7 @@ public final class ContainerTerminal {
     }
 
     public char lineChar(int index) throws IndexOutOfBoundsException {
-        if (index < 0 || index >= line.length) {
+        if (!line.hasIndex(index)) {
             throw new IndexOutOfBoundsException("the line has no such index");
         }
         return line.text[index];
@@ -1027,9 +1027,13 @@ public final class ContainerTerminal {
             return urgent;
         }
 
+        private int dueAt(int berth) {
+            return isBerth(berth) ? dueHours[berth] : 0;
+        }
+
         private boolean isMoreUrgent(int berth, int other) {
-            if (dueHours[berth] != dueHours[other]) {
-                return dueHours[berth] < dueHours[other];
+            if (dueAt(berth) != dueAt(other)) {
+                return dueAt(berth) < dueAt(other);
             }
             return cargo.loadOf(berth) > cargo.loadOf(other);
         }
@@ -1059,7 +1063,11 @@ public final class ContainerTerminal {
         }
 
         void push(State state) {
-            states[next].copyFrom(state);
+            State kept = stateAt(next);
+            if (kept == null) {
+                return;
+            }
+            kept.copyFrom(state);
             next = (next + 1) % UNDO_DEPTH;
             if (count < UNDO_DEPTH) {
                 count++;
@@ -1067,20 +1075,30 @@ public final class ContainerTerminal {
         }
 
         void popInto(State state) {
-            next = (next + UNDO_DEPTH - 1) % UNDO_DEPTH;
-            state.copyFrom(states[next]);
+            int latest = (next + UNDO_DEPTH - 1) % UNDO_DEPTH;
+            State kept = stateAt(latest);
+            if (kept == null) {
+                return;
+            }
+            state.copyFrom(kept);
+            next = latest;
             count--;
+        }
+
+        private State stateAt(int place) {
+            return place >= 0 && place < UNDO_DEPTH ? states[place] : null;
         }
     }
 
     /** The commands that were read from the input buffer. */
     private static final class Program {
         private final int[] kinds = new int[COMMAND_ROWS];
-        private final int[][] arguments = new int[COMMAND_ROWS][ARGUMENTS];
+        /** Places for the arguments of the first command, then for those of the second, and so on. */
+        private final int[] arguments = new int[COMMAND_ROWS * ARGUMENTS];
         private int count = 0;
 
         void begin(int kind) {
-            if (count < COMMAND_ROWS) {
+            if (isRow(count)) {
                 kinds[count] = kind;
                 count++;
             }
@@ -1088,64 +1106,85 @@ public final class ContainerTerminal {
 
         /** Keeps an argument of the command that was begun last. */
         void keep(int place, int value) {
-            if (count > 0 && place >= 0 && place < ARGUMENTS) {
-                arguments[count - 1][place] = value;
+            if (isRow(count - 1) && isPlace(place)) {
+                arguments[(count - 1) * ARGUMENTS + place] = value;
             }
+        }
+
+        private static boolean isRow(int command) {
+            return command >= 0 && command < COMMAND_ROWS;
+        }
+
+        private static boolean isPlace(int place) {
+            return place >= 0 && place < ARGUMENTS;
+        }
+
+        private int kind(int command) {
+            return isRow(command) ? kinds[command] : NONE;
+        }
+
+        private int given(int command, int place) {
+            return isRow(command) && isPlace(place) ? arguments[command * ARGUMENTS + place] : 0;
         }
 
         /** Carries the commands out up to the first one that fails, and returns its index. */
         int firstFailureOn(State state) {
-            for (int command = 0; command < count && command < COMMAND_ROWS; command++) {
-                int[] given = arguments[command];
-                if (faultOf(state, kinds[command], given) != NO_FAULT) {
+            for (int command = 0; command < count; command++) {
+                if (faultOf(state, command) != NO_FAULT) {
                     return command;
                 }
-                carryOut(state, kinds[command], given);
+                carryOut(state, command);
             }
             return NONE;
         }
 
-        private static int faultOf(State state, int kind, int[] given) {
-            switch (kind) {
+        private int faultOf(State state, int command) {
+            int first = given(command, 0);
+            int second = given(command, 1);
+            int third = given(command, 2);
+            switch (kind(command)) {
                 case MOOR:
-                    return state.mooringFault(given[0], given[1], given[2]);
+                    return state.mooringFault(first, second, third);
                 case STOW:
-                    return state.stowingFault(given[0], given[1], given[2], given[3]);
+                    return state.stowingFault(first, second, third, given(command, 3));
                 case CLEAR:
-                    return state.clearingFault(given[0], given[1], given[2]);
+                    return state.clearingFault(first, second, third);
                 case MOVE:
-                    return state.movingFault(given[0], given[1], given[2]);
+                    return state.movingFault(first, second, third);
                 case DELIVER:
-                    return state.deliveringFault(given[0]);
+                    return state.deliveringFault(first);
                 case LEAVE:
-                    return state.leavingFault(given[0]);
+                    return state.leavingFault(first);
                 default:
-                    return passingFault(given[0]);
+                    return passingFault(first);
             }
         }
 
-        private static void carryOut(State state, int kind, int[] given) {
-            switch (kind) {
+        private void carryOut(State state, int command) {
+            int first = given(command, 0);
+            int second = given(command, 1);
+            int third = given(command, 2);
+            switch (kind(command)) {
                 case MOOR:
-                    state.putShip(given[0], given[1], given[2]);
+                    state.putShip(first, second, third);
                     break;
                 case STOW:
-                    state.putContainer(given[0], given[1], given[2], given[3]);
+                    state.putContainer(first, second, third, given(command, 3));
                     break;
                 case CLEAR:
-                    state.tryAnswer(given[0], given[1], given[2]);
+                    state.tryAnswer(first, second, third);
                     break;
                 case MOVE:
-                    state.shiftTop(given[0], given[1], given[2]);
+                    state.shiftTop(first, second, third);
                     break;
                 case DELIVER:
-                    state.handOver(given[0]);
+                    state.handOver(first);
                     break;
                 case LEAVE:
-                    state.takeShip(given[0]);
+                    state.takeShip(first);
                     break;
                 default:
-                    state.letHoursPass(given[0]);
+                    state.letHoursPass(first);
                     break;
             }
         }
@@ -1323,6 +1362,10 @@ public final class ContainerTerminal {
             put(' ');
             put(letter);
             putNumber(number);
+        }
+
+        boolean hasIndex(int index) {
+            return index >= 0 && index < length && index < LINE_LENGTH;
         }
 
         private void put(char character) {

@@ -40,6 +40,11 @@ final class Check {
         throwsDue(call, java.util.NoSuchElementException.class, made);
     }
 
+    /** How many answers have been looked at. */
+    static int looked() {
+        return right + wrong;
+    }
+
     static Object outcome(Call made) {
         try {
             return made.answer();

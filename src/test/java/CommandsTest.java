@@ -7,6 +7,7 @@ public final class CommandsTest {
         append();
         everyCommand();
         argumentsOfCommands();
+        argumentsThatFail();
         numbers();
         malformed();
         everyPrefix();
@@ -42,7 +43,8 @@ public final class CommandsTest {
         Check.due("view", "5 4 2 1 0 true | 0 0 | 0 0 | 0 0 yard 0:30/99", Check.view(x));
         Check.due("run of seven commands", 7, Check.run(x, "hours 1;hours 1;hours 1;hours 1;hours 1;hours 1;hours 1"));
         Check.due("hour", 12, x.hour());
-        Check.due("run of 60 characters", 6, Check.run(x, "moor 0 4 12;moor 1 4 999;leave 0;hours 10;hours 100;hours 01"));
+        Check.due("run of 60 characters", 6,
+            Check.run(x, "moor 0 4 12;moor 1 4 999;leave 0;hours 10;hours 100;hours 01"));
         Check.due("hour", 123, x.hour());
         Check.due("undoableCount", 5, x.undoableCount());
     }
@@ -56,12 +58,17 @@ public final class CommandsTest {
         Check.due("view", "0 0 2 1 0 true | 0 0 | 0 0 d2 h345 / / / / 2:9/9 | 0 0 yard 0:3/45", Check.view(x));
         Check.due("run", 4, Check.run(x, "hours 2;move 131;deliver 0;clear 11=2"));
         Check.due("view", "2 0 3 2 0 true | 0 0 | 0 0 d2 h345 / / / / | 0 0 yard 2:9/9", Check.view(x));
+        Check.due("run", 3, Check.run(x, "hours 2;deliver 2;leave 1"));
+        Check.due("view", "4 0 3 3 0 true | 0 0 | 0 0 | 0 0 yard", Check.view(x));
+    }
+
+    private static void argumentsThatFail() {
+        ContainerTerminal x = new ContainerTerminal();
+        x.moor(1, 4, 50);
         failsAt(x, "hours 1;stow 04 1/1", 1);
         failsAt(x, "hours 1;stow 14 1/1", 1);
         failsAt(x, "stow 11 1/1;clear 11=8;clear 11=8", 2);
         failsAt(x, "deliver 1", 0);
-        Check.due("run", 3, Check.run(x, "hours 2;deliver 2;leave 1"));
-        Check.due("view", "4 0 3 3 0 true | 0 0 | 0 0 | 0 0 yard", Check.view(x));
     }
 
     private static void numbers() {
@@ -166,17 +173,17 @@ public final class CommandsTest {
     }
 
     private static void everyCommandCanFail() {
-        ContainerTerminal x = Check.stacked(1, 2, 3, 4, 5);
-        x.moor(2, 9, 50);
         String[] failing = {"moor 3 4 5", "moor 1 0 5", "moor 0 4 5", "stow 30 1/1", "stow 04 1/1", "stow 01 0/1",
             "stow 01 1/100", "stow 10 1/1", "stow 00 1/1", "clear 90=1", "clear 09=1", "clear 10=1", "clear 01=1",
             "move 301", "move 041", "move 004", "move 000", "move 101", "move 012", "deliver 0", "deliver 999",
             "leave 3", "leave 1", "leave 0", "leave 2", "hours 0", "hours 101"};
         for (String command : failing) {
+            ContainerTerminal x = Check.stacked(1, 2, 3, 4, 5);
+            x.moor(2, 9, 50);
             failsAt(x, command, 0);
             failsAt(x, "hours 1;moor 1 1 9;leave 1;" + command, 3);
+            failsAt(x, "hours 6;moor 1 4 5", 1);
         }
-        failsAt(x, "hours 6;moor 1 4 5", 1);
     }
 
     private static void failureUndoesAll() {

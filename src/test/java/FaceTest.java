@@ -106,8 +106,9 @@ public final class FaceTest {
         for (String word : List.of("catch", "try", "finally", "synchronized", "assert", "Object", "equals", "hashCode",
                 "toString", "System.out", "currentTimeMillis", "nanoTime", "Random", "Thread", "Exact(", "->", "::",
                 "instanceof", "package", "@")) {
-            String pattern = Character.isLetter(word.charAt(0)) && Character.isLetter(word.charAt(word.length() - 1))
-                ? "(?s).*\\b" + word.replace(".", "\\.") + "\\b.*" : "(?s).*" + java.util.regex.Pattern.quote(word) + ".*";
+            String quoted = java.util.regex.Pattern.quote(word);
+            boolean isWord = Character.isLetter(word.charAt(0)) && Character.isLetter(word.charAt(word.length() - 1));
+            String pattern = isWord ? "(?s).*\\b" + quoted + "\\b.*" : "(?s).*" + quoted + ".*";
             Check.due("the word " + word, false, program.matches(pattern));
         }
         Check.due("signs 1 to 127", true, program.chars().allMatch(sign -> sign >= 1 && sign <= 127));

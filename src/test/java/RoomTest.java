@@ -8,10 +8,12 @@ public final class RoomTest {
     private static final long MOST_BYTES = 64 * 1024;
 
     public static void main(String[] arguments) {
-        ContainerTerminal[] made = new ContainerTerminal[1];
+        // The first object also loads the classes, which makes objects that are none of the program's.
+        ContainerTerminal[] made = {new ContainerTerminal(), null};
         long before = bytes();
-        made[0] = new ContainerTerminal();
-        Check.due("bytes of the constructor are few", true, bytes() - before < MOST_BYTES);
+        made[1] = new ContainerTerminal();
+        long used = bytes() - before;
+        Check.due("the constructor makes " + used + " bytes, few", true, used < MOST_BYTES);
         ContainerTerminal x = fullTerminal();
         makesNothing("isConsistent", x::isConsistent);
         makesNothing("feesAfter", () -> x.feesAfter(100));
