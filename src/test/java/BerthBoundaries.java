@@ -287,6 +287,15 @@ final class BerthBoundaries {
             int[] given = weights[index];
             Boundary.answers(due[index], () -> Check.stacked(given), x -> x.heavyOverLight(0, 0));
         }
+        for (int place = 0; place < 12; place++) {
+            ContainerTerminal x = Scenes.threeShips();
+            x.stow(place / 4, place % 4, 1, 1);
+            x.stow(place / 4, place % 4, 2, 1);
+            for (int other = 0; other < 12; other++) {
+                Boundary.due("stack " + other % 4 + " at berth " + other / 4, other == place ? 1 : 0,
+                    x.heavyOverLight(other / 4, other % 4));
+            }
+        }
     }
 
     private static void ties() {

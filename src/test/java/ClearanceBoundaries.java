@@ -229,6 +229,25 @@ final class ClearanceBoundaries {
         Boundary.due("yardCount", 15, y.yardCount());
         y.stow(0, 0, 3, 0);
         Boundary.throwsDue(STATE, y, z -> z.clear(0, 0, 3));
+        fullTerminal();
+    }
+
+    private static void fullTerminal() {
+        ContainerTerminal x = Scenes.full();
+        Boundary.due("the last one", "true 15 74 2 0 4", x.isOnShip(74) + " " + x.weightOf(74) + " " + x.keyOf(74)
+            + " " + x.berthOf(74) + " " + x.stackOf(74) + " " + x.levelOf(74));
+        Boundary.due("its stack", "5 74 74", x.stackHeight(2, 0) + " " + x.topOf(2, 0) + " " + x.containerAt(2, 0, 4));
+        Boundary.due("the yard", "15 0 14", x.yardCount() + " " + x.yardAt(0) + " " + x.yardAt(14));
+        Boundary.due("all keys", 75, x.differentKeys());
+        Boundary.due("all ships", "20 20 20", x.containersOn(0) + " " + x.containersOn(1) + " " + x.containersOn(2));
+        Boundary.due("isConsistent", true, x.isConsistent());
+        Boundary.throwsDue(STATE, x, y -> y.stow(2, 0, 1, 1));
+        Boundary.throwsDue(STATE, x, y -> y.clear(2, 0, 3));
+        Boundary.throwsDue(STATE, x, y -> y.move(2, 0, 1));
+        Boundary.due("deliver", 14, x.deliver(14));
+        Boundary.due("clear the last one", true, x.clear(2, 0, 3));
+        Boundary.due("it lies in the yard", "15 74", x.yardCount() + " " + x.yardAt(14));
+        Boundary.due("stow in its place", 75, x.stow(2, 0, 1, 1));
     }
 
     private static void orderOfYard() {
@@ -261,5 +280,41 @@ final class ClearanceBoundaries {
                 Boundary.throwsDue(NoSuchElementException.class, x, y -> y.deliver(position));
             }
         }
+        deliveredFromReversed();
+        nothingIsLeftBehind();
+    }
+
+    /** The containers 4 to 0 came in this order: those behind the delivered one have the lower ids. */
+    private static void deliveredFromReversed() {
+        for (int id = 0; id < 5; id++) {
+            ContainerTerminal x = Check.stacked(1, 2, 3, 4, 5);
+            for (int count = 0; count < 5; count++) {
+                Check.clearRight(x, 0, 0);
+            }
+            Boundary.due("deliver", 4, x.deliver(id));
+            for (int position = 0; position < 4; position++) {
+                int due = 4 - position > id ? 4 - position : 3 - position;
+                Boundary.due("position " + position + " without " + id, due, x.yardAt(position));
+            }
+            Boundary.throwsDue(NoSuchElementException.class, x, y -> y.yardAt(4));
+        }
+    }
+
+    /** After a delivery the latest container lies in one place only, also when it moves. */
+    private static void nothingIsLeftBehind() {
+        ContainerTerminal x = Scenes.yard(1);
+        x.stow(0, 2, 9, 9);
+        x.deliver(0);
+        x.move(0, 2, 3);
+        Boundary.throwsDue(NoSuchElementException.class, x, y -> y.containerAt(0, 2, 0));
+        Boundary.throwsDue(NoSuchElementException.class, x, y -> y.topOf(0, 2));
+        Boundary.due("on its new stack", "2 2", x.containerAt(0, 3, 0) + " " + x.topOf(0, 3));
+        Boundary.due("the ship", "2 12 12", x.containersOn(0) + " " + x.weightOn(0) + " " + x.weightOnByContainers(0));
+        Check.clearRight(x, 0, 3);
+        Boundary.throwsDue(NoSuchElementException.class, x, y -> y.containerAt(0, 3, 0));
+        Boundary.due("in the yard", "1 2", x.yardCount() + " " + x.yardAt(0));
+        x.deliver(2);
+        Boundary.throwsDue(NoSuchElementException.class, x, y -> y.yardAt(0));
+        Boundary.throwsDue(NoSuchElementException.class, x, y -> y.weightOf(2));
     }
 }

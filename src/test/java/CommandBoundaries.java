@@ -228,17 +228,28 @@ final class CommandBoundaries {
         same("move 001", x -> x.move(0, 0, 1));
         same("deliver 9", x -> x.deliver(9));
         same("hours 100", x -> x.pass(100));
-        ContainerTerminal x = Scenes.threeShips();
-        Check.run(x, "leave 1");
-        ContainerTerminal y = Scenes.threeShips();
-        y.leave(1);
-        Boundary.due("leave 1", Whole.tell(y), Whole.tell(x));
+        for (int number = 0; number < 3; number++) {
+            int berth = number;
+            same(Scenes::threeShips, "leave " + number, x -> x.leave(berth));
+            same(CommandBoundaries::threeShipsAndYard, "deliver " + number, x -> x.deliver(berth));
+        }
+    }
+
+    private static ContainerTerminal threeShipsAndYard() {
+        ContainerTerminal x = Scenes.yard(3);
+        x.moor(1, 4, 100);
+        x.moor(2, 4, 100);
+        return x;
     }
 
     private static void same(String command, Boundary.Step step) {
-        ContainerTerminal x = Scenes.quiet();
+        same(Scenes::quiet, command, step);
+    }
+
+    private static void same(Boundary.Scene scene, String command, Boundary.Step step) {
+        ContainerTerminal x = scene.make();
         Boundary.due(command, 1, Check.run(x, command));
-        ContainerTerminal y = Scenes.quiet();
+        ContainerTerminal y = scene.make();
         step.on(y);
         Boundary.due("the terminal after " + command, Whole.tell(y), Whole.tell(x));
     }

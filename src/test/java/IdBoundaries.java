@@ -220,6 +220,9 @@ final class IdBoundaries {
         Boundary.answers(1, () -> Check.stacked(7, 7), question);
         Boundary.answers(3, () -> Check.stacked(7, 8, 7, 7), question);
         Boundary.answers(10, () -> Check.stacked(7, 7, 7, 7, 7), question);
+        Boundary.answers(1, () -> Check.stacked(9, 7, 7), question);
+        Boundary.answers(2, () -> Check.stacked(9, 8, 7, 8, 9), question);
+        Boundary.answers(4, () -> Check.stacked(9, 8, 8, 9, 9), question);
         Boundary.answers(0, Scenes::loaded, question);
         ContainerTerminal x = Scenes.threeShips();
         x.stow(0, 0, 7, 8);

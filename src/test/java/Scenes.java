@@ -56,6 +56,22 @@ final class Scenes {
         return x;
     }
 
+    /**
+     * 60 containers on the ships and 15 in the yard: no terminal holds more. The ids 0 to 14 are in the yard, those
+     * from 15 on lie at the berths in turn; their key is the id, their weight the id modulo 30 and 1 more.
+     */
+    static ContainerTerminal full() {
+        ContainerTerminal x = threeShips();
+        for (int id = 0; id < 75; id++) {
+            int weight = id % 30 + 1;
+            x.stow(id % 3, id / 3 % 4, weight, id);
+            if (id < 15) {
+                x.clear(id % 3, id / 3 % 4, (7 * id + weight) % 10);
+            }
+        }
+        return x;
+    }
+
     /** A ship at berth 0 with two containers on stack 0 and one on stack 1, and so many wrong answers. */
     static ContainerTerminal wrong(int answers) {
         ContainerTerminal x = Check.stacked(3, 4);

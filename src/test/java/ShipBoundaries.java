@@ -228,6 +228,11 @@ final class ShipBoundaries {
             Boundary.due("then it can be cleared", true, Check.clearRight(x, 2, 3));
             Boundary.due("cleared", true, x.isInYard(0));
         }
+        ContainerTerminal y = Check.stacked(1);
+        y.stow(0, 1, 2, 2);
+        y.move(0, 0, 1);
+        Boundary.due("the first container above a later one", "1 0", y.movesToReach(1) + " " + y.movesToReach(0));
+        Boundary.due("by copy", "1 0", y.movesToReachByCopy(1) + " " + y.movesToReachByCopy(0));
     }
 
     private static void topToTop() {

@@ -61,6 +61,56 @@ final class UndoBoundaries {
         Boundary.due("leave", 3, y.undo());
         Boundary.due("the terminal", before, Check.view(y));
         refusedIsNoChange();
+        atEachBerth();
+        onFullTerminal();
+    }
+
+    /** At each berth, what an undo brings back: the ship, its wrong answers, and the hours of its lock. */
+    private static void atEachBerth() {
+        for (int berth = 0; berth < 3; berth++) {
+            ContainerTerminal x = Scenes.threeShips();
+            x.stow(berth, 1, 1, 1);
+            int[][] wrongAndLock = {{0, 0}, {1, 0}, {2, 0}, {0, 2}, {0, 1}};
+            for (int step = 1; step <= 4; step++) {
+                Object made = step < 4 ? x.clear(berth, 1, 0) : x.pass(1);
+                Boundary.due("step " + step, step < 4 ? false : 0, made);
+            }
+            for (int step = 4; step >= 0; step--) {
+                int[] due = wrongAndLock[step];
+                Boundary.due("wrong answers and lock before " + step, due[0] + " " + due[1],
+                    x.wrongAnswers(berth) + " " + x.lockedHours(berth));
+                x.undo();
+            }
+            Boundary.due("the ship without its container", 0, x.containersOn(berth));
+            x.leave(berth);
+            x.moor(berth, 9, 7);
+            x.undo();
+            x.undo();
+            Boundary.due("the ship itself", "4 100", x.draught(berth) + " " + x.dueHour(berth));
+        }
+    }
+
+    private static String last(ContainerTerminal x) {
+        return x.yardCount() + " " + x.yardAt(14) + " " + x.stackHeight(2, 0) + " " + x.topOf(2, 0) + " "
+            + x.weightOf(74) + " " + x.keyOf(74) + " " + x.levelOf(74) + " " + x.isConsistent();
+    }
+
+    /** The last of 75 containers comes back by undo and by restore. */
+    private static void onFullTerminal() {
+        ContainerTerminal x = Scenes.full();
+        String before = last(x);
+        x.save();
+        x.deliver(0);
+        x.clear(2, 0, 3);
+        x.stow(2, 0, 1, 1);
+        x.undo();
+        x.undo();
+        x.undo();
+        Boundary.due("after three undos", before, last(x));
+        Boundary.due("run", 2, Check.run(x, "deliver 14;clear 20=3"));
+        x.deliver(74);
+        Boundary.due("restore", 3, x.restore());
+        Boundary.due("after restore", before, last(x));
     }
 
     private static void refusedIsNoChange() {
