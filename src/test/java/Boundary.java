@@ -111,11 +111,16 @@ final class Boundary {
         return cases;
     }
 
-    private static String wholeSection(int promise) {
+    /** The rows of a promise's section, each on one line: what it does, its arguments, its answer, its exceptions. */
+    static List<String> rowsOf(int promise) {
         if (SECTIONS.isEmpty()) {
             readSections();
         }
-        return String.join("\n", SECTIONS.getOrDefault(promise, List.of()));
+        return SECTIONS.getOrDefault(promise, List.of());
+    }
+
+    private static String wholeSection(int promise) {
+        return String.join("\n", rowsOf(promise));
     }
 
     private static void readSections() {
